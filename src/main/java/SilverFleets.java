@@ -768,13 +768,10 @@ public final class SilverFleets {
             return guns < season.pirates[w] ? richest : NONE;
         }
 
-        private int silverTaken(int set, int w) {
-            int taken = takenOf(set, w);
-            return taken == NONE ? 0 : log.silverOf(taken);
-        }
-
         private int worthOf(int set, int w) {
-            return (silverTogether(set) - silverTaken(set, w)) * (10 - season.storm[w]);
+            int taken = takenOf(set, w);
+            int lost = taken == NONE ? 0 : log.silverOf(taken);
+            return (silverTogether(set) - lost) * (10 - season.storm[w]);
         }
 
         private void reckonGame(int set, int a, int b) {

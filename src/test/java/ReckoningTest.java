@@ -97,6 +97,14 @@ public final class ReckoningTest {
     x.undo();
     plan(x, 90, 2);
     Checks.due("nothing was changed", x.count(3), 4);
+
+    SilverFleets y = Checks.told("w0 0;w0 0;s10 0 0 0;s20 0 0 0;");
+    Checks.due("a week's ships asked first", y.plan(1), 3);
+    y.sails(1, 0);
+    Checks.due("and again behind a deed", y.plan(1), 2);
+    Checks.type(y, "w5 0;s10 0 0 0;s20 0 0 0;");
+    y.season();
+    plan(y, 150, 3);
   }
 
   private static void lates() {

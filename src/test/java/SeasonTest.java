@@ -104,6 +104,8 @@ public final class SeasonTest {
     // letters that begin no item
     fault("x", 0);
     fault("ww0 0;", 0);
+    fault("wa0 0;", 0);
+    fault("wz0 0;", 0);
     fault("sw0 0;", 0);
     fault("w0 0;wk1;", 5);
     fault("  kk", 2);
