@@ -481,7 +481,7 @@ public final class SilverFleets {
         private static final int FAULT = -10;
         /** What the numbers of an item may be at most, in their order. */
         private static final int[] WEEK_MOST = {10, 40};
-        private static final int[] SHIP_MOST = {MOST_BARS, MOST_BARS, 9, 11};
+        private static final int[] SHIP_MOST = {60, 60, 9, 11};
         private static final int[] SHARE_MOST = {10};
 
         private static final int NOTHING = 0;
