@@ -32,9 +32,11 @@ public final class ModelTest {
         for (int i = 0; i < text.length() && left > 0; i++, left--) {
           same("type " + (int) text.charAt(i), x.type(text.charAt(i)), m.type(text.charAt(i)));
         }
-        same("season() of '" + m.text + "'", x.season(), m.season());
-        left--;
-        if (byLetters && random.nextBoolean()) {
+        if (left > 0) {
+          same("season() of '" + m.text + "'", x.season(), m.season());
+          left--;
+        }
+        if (left > 0 && byLetters && random.nextBoolean()) {
           same("clear()", x.clear(), m.clear());
           left--;
         }
@@ -51,8 +53,10 @@ public final class ModelTest {
 
   private static String goodText(Random r) {
     StringBuilder b = new StringBuilder();
-    int weeks = r.nextInt(6);
-    int ships = r.nextInt(6);
+    // all ways of five ships through twelve weeks are too many for the model
+    boolean manyWeeks = r.nextInt(4) == 0;
+    int weeks = manyWeeks ? 6 + r.nextInt(7) : r.nextInt(6);
+    int ships = r.nextInt(manyWeeks ? 4 : 6);
     int most = r.nextInt(3) == 0 ? 4 : 61;
     for (int w = 0; w < weeks; w++) {
       b.append('w').append(r.nextInt(11)).append(' ').append(r.nextInt(r.nextBoolean() ? 41 : 12)).append(';');
