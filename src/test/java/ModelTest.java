@@ -53,10 +53,8 @@ public final class ModelTest {
 
   private static String goodText(Random r) {
     StringBuilder b = new StringBuilder();
-    // all ways of five ships through twelve weeks are too many for the model
-    boolean manyWeeks = r.nextInt(4) == 0;
-    int weeks = manyWeeks ? 6 + r.nextInt(7) : r.nextInt(6);
-    int ships = r.nextInt(manyWeeks ? 4 : 6);
+    int weeks = r.nextInt(4) == 0 ? 6 + r.nextInt(7) : r.nextInt(6);
+    int ships = r.nextInt(6);
     int most = r.nextInt(3) == 0 ? 4 : 61;
     for (int w = 0; w < weeks; w++) {
       b.append('w').append(r.nextInt(11)).append(' ').append(r.nextInt(r.nextBoolean() ? 41 : 12)).append(';');
